@@ -26,6 +26,7 @@ public final class LawsAndTalesTest {
         promise15Seed();
         promise16Minute();
         promise17Spread();
+        promise17SpreadBeyondAMinute();
         promise17SpreadAddsUp();
         promise18State();
         Due.end();
@@ -319,6 +320,10 @@ public final class LawsAndTalesTest {
         x.mind(0, 3);
         x.house(5, 2, 1);
         Due.is("half of -3, cut", x.minutes(1), 17);
+        x.mind(0, 2);
+        x.set(0, 2);
+        x.house(7, 2, 1);
+        Due.is("half of 4", x.minutes(1), 15);
     }
 
     private static void promise15Seed() {
@@ -357,6 +362,15 @@ public final class LawsAndTalesTest {
             Due.is("another, seed " + seed, y.of((one + 1) % 3, 2), (one + 1) % 3 + 1);
             Due.is("z, seed " + seed, y.seed(0), meets ? z[2] : z[1]);
         }
+        WarmGossip edge = new WarmGossip();
+        edge.tale(0, 50, 0);
+        int second = (next(next(1)) >>> 16) % 100;
+        edge.set(3, second);
+        edge.minute();
+        Due.is("what is drawn is not below MEETING", edge.seed(1), next(next(1)));
+        edge.set(3, second + 1);
+        edge.minute();
+        Due.is("what is drawn is below MEETING", edge.seed(1), next(next(next(1))));
         WarmGossip none = new WarmGossip();
         none.tale(0, 50, 0);
         none.set(3, 0);
@@ -387,6 +401,22 @@ public final class LawsAndTalesTest {
         Due.is("n 0", x.spread(0), BAD);
         Due.is("n 31", x.spread(31), BAD);
         Due.is("n -1", x.spread(-1), BAD);
+    }
+
+    /** It goes on to 1 by itself; met at 0 or 7 it is heard by no more than two either. */
+    private static void promise17SpreadBeyondAMinute() {
+        WarmGossip x = new WarmGossip();
+        x.tale(0, 50, 0);
+        x.set(3, 0);
+        Due.is("without meetings", x.spread(30), 0);
+        x.set(3, 50);
+        for (int seed = 0; seed < 40; seed++) {
+            int z = next(next(seed));
+            boolean meets = (z >>> 16) % 100 < 50;
+            int there = (next(z) >>> 16) % 8;
+            x.seed(seed);
+            Due.is("by one, seed " + seed, x.spread(1), meets && there != 0 && there != 7 ? 1 : 0);
+        }
     }
 
     /** Two tales heard by the same house count twice. */
@@ -430,6 +460,8 @@ public final class LawsAndTalesTest {
         Due.is("houses AT which one is", x.state(3), 8 + 2);
         Due.is("boxes", x.state(4), 128 + 4);
         Due.is("tales whose HEAT is 0", x.state(5), 2);
+        x.warm(0, 0);
+        Due.is("all tales whose HEAT is 0", x.state(5), 3);
         x.minutes(7);
         Due.is("MINUTE", x.state(0), 7);
         Due.is("what 6", x.state(6), BAD);

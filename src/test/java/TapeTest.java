@@ -126,6 +126,8 @@ public final class TapeTest {
         Due.is("house 8", Parishes.told("tale at 8;"), -108);
         Due.is("another name", Parishes.told("tales at 1;"), -100);
         Due.is("part of a name", Parishes.told("tal at 1;"), -100);
+        Due.is("another first letter", Parishes.told("bale at 1;"), -100);
+        Due.is("another last letter", Parishes.told("talk at 1;"), -100);
         Due.is("capitals", Parishes.told("Tale at 1;"), -100);
         Due.is("capitals later", Parishes.told("tAle at 1;"), -100);
         Due.is("not at", Parishes.told("tale is 1;"), -105);
@@ -145,6 +147,7 @@ public final class TapeTest {
     private static void promise3FaultsOfTheOthers() {
         Due.is("friend 8", Parishes.told("friend 1 is 8;"), -112);
         Due.is("friend of 8", Parishes.told("friend 8 is 1;"), -107);
+        Due.is("friend 7 of 7", Parishes.told("friend 7 is 7;"), 0);
         Due.is("friend at", Parishes.told("friend 1 at 2;"), -109);
         Due.is("friend without is", Parishes.told("friend 1 2;"), -109);
         Due.is("taste 99", Parishes.told("taste 7 is 99;"), 0);
@@ -203,5 +206,11 @@ public final class TapeTest {
         Due.is("fault", x.parish(), -100 - 34);
         Due.holds("a fault changes nothing but the tape", before.equals(Parishes.seen(x)));
         Due.is("used up", x.parish(), 0);
+        Due.is("z stays", x.seed(6), 5);
+        Parishes.feed(x, "tale at 6;box 7;");
+        x.seed(8);
+        Due.is("another text", x.parish(), 1);
+        Due.is("its box", x.state(4), 128);
+        Due.is("z stays again", x.seed(1), 8);
     }
 }

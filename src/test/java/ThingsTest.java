@@ -281,7 +281,7 @@ public final class ThingsTest {
         WarmGossip x = thing(5, 2, 5);
         acts(x, 0, 7, 12, 10);
         acts(x, 1, 7, 32, 11, 10);
-        acts(x, 2, 7, 4, 61, 12, 10);
+        acts(x, 2, 9, 6, 61, 12, 10);
         acts(x, 3, 7, (32 ^ 160) - 6, 60, 13, 11, 10);
     }
 

@@ -165,6 +165,11 @@ public final class TriedTest {
         Due.is("without a box", x.boxFor(0, 2), 2);
         x.house(2, 2, 1);
         Due.is("no other helps", x.boxFor(0, 2), NONE);
+        x.carry(0, 7);
+        Due.is("at 0, by 1", x.boxFor(0, 1), 0);
+        x.house(0, 2, 1);
+        x.carry(0, 6);
+        Due.is("at 7, by 1", x.boxFor(0, 1), 7);
         x = short4();
         Due.is("it is cold with each", x.boxFor(0, 6), NONE);
         x = warming();
@@ -188,6 +193,8 @@ public final class TriedTest {
         Due.is("the farthest", x.kindFor(0, 3), 3);
         x.warm(0, 0);
         Due.is("all the same", x.kindFor(0, 3), 0);
+        x.warm(0, 9);
+        Due.is("by 1", x.kindFor(0, 1), 2);
         Due.is("n 0", x.kindFor(0, 0), BAD);
         Due.is("n 31", x.kindFor(0, 31), BAD);
         Due.is("tale 1", x.kindFor(1, 1), BAD);
