@@ -1244,7 +1244,7 @@ public final class WarmGossip {
         }
 
         void goBehind(char least, char most) {
-            while (end < count && isWithin(bytes[end], least, most)) {
+            while (end < count && bytes[end] >= least && bytes[end] <= most) {
                 end++;
             }
         }
