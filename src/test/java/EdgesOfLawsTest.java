@@ -133,6 +133,15 @@ public final class EdgesOfLawsTest {
         for (int h = 0; h < 8; h++) {
             WarmGossip x = one(h % 6, 0, h);
             Due.is("HEARD at first", x.of(0, 3), 1 << h);
+            Due.is("AT which the only one is", x.state(3), 1 << h);
+            Due.is("one HOUSE", x.many(2), 1);
+            Due.is("the only one is there", x.houseOf(h, 3), 1);
+            Due.is("and at no other", x.houseOf((h + 1) % 8, 3), 0);
+            Due.is("it has HEARD the only one", x.houseOf(h, 5), 1);
+            Due.is("the other has not", x.houseOf((h + 1) % 8, 5), 0);
+            Due.is("the only one is cold", x.state(5), 1);
+            x.tale(TALE, 1, 7 - h);
+            Due.is("AT which the two are", x.state(3), 1 << h | 128 >> h);
         }
         WarmGossip x = one(TALE, 0, 0);
         for (int h = 0; h < 8; h++) {

@@ -449,6 +449,7 @@ public final class LawsAndTalesTest {
     private static void promise18State() {
         WarmGossip x = new WarmGossip();
         x.tale(0, 20, 3);
+        Due.is("the one HOUSE", x.state(3), 8);
         x.tale(0, 0, 3);
         x.tale(0, 7, 6);
         x.carry(2, 3);
