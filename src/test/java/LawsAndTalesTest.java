@@ -170,6 +170,9 @@ public final class LawsAndTalesTest {
         Due.is("mind again", x.mind(0, 5), 5);
         Due.is("its kind", x.of(0, 0), 5);
         Due.is("its heat stays", x.of(0, 1), 5);
+        Due.is("AT which it is stays", x.of(0, 2), 0);
+        Due.is("who has HEARD it stays", x.of(0, 3), 1);
+        Due.is("to what it is", x.mind(0, 5), 5);
         Due.is("kind 6", x.mind(0, 6), BAD);
         Due.is("kind -1", x.mind(0, -1), BAD);
         Due.is("tale 1", x.mind(1, 0), BAD);
