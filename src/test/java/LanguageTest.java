@@ -32,6 +32,7 @@ public final class LanguageTest {
         words(source, code);
         sizes(code);
         nestedNames(code);
+        made(code);
         Due.end();
     }
 
@@ -108,6 +109,18 @@ public final class LanguageTest {
             Matcher m = METHOD.matcher(line);
             if (m.matches() && !line.startsWith("    public ")) {
                 Due.holds(m.group(1) + " has a name of its own", !promised.contains(m.group(1)));
+            }
+        }
+    }
+
+    /** All calls of a run live in one room, so only the constructor and the fields make objects. */
+    private static void made(String code) {
+        int from = code.indexOf("public WarmGossip() {");
+        int to = code.indexOf("\n    }\n", from);
+        Due.holds("the constructor is found", from >= 0 && to > from);
+        for (String line : (code.substring(0, from) + code.substring(to)).split("\n")) {
+            if (line.matches(".*\\bnew\\b.*")) {
+                Due.holds("a field's: " + line, line.matches("        final \\w+\\[\\] \\w+ = new \\w+\\[\\w+\\];"));
             }
         }
     }
